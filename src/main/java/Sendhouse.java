@@ -346,7 +346,6 @@ public final class Sendhouse {
             throw new UnsupportedOperationException("no such method");
         }
         state = STANDS;
-        answer = NOTHING;
         frameCount = 0;
         Frame first = openFrame(told, receiver);
         if (first != null) {
@@ -1288,8 +1287,6 @@ public final class Sendhouse {
 
         int placesOf(char what) {
             switch (what) {
-                case 's':
-                    return 1;
                 case 'a':
                     return told == null ? 0 : told.arguments;
                 case 't':
@@ -1301,8 +1298,6 @@ public final class Sendhouse {
 
         long placeOf(char what, int index) {
             switch (what) {
-                case 's':
-                    return receiver;
                 case 'a':
                     return placeAt(arguments, index);
                 case 't':
