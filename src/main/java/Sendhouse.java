@@ -1139,7 +1139,7 @@ public final class Sendhouse {
             int to = count - 1;
             for (int i = 0; i < MOST_THINGS && from <= to; i++) {
                 int middle = (from + to) / 2;
-                Thing thing = inOrder(middle);
+                Thing thing = isBelow(middle, all.length) ? all[middle] : null;
                 if (thing == null || thing.number == number) {
                     return thing;
                 }

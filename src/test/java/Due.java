@@ -1,6 +1,8 @@
 import java.util.function.LongSupplier;
+import java.util.function.Supplier;
+import java.util.function.ToLongFunction;
 
-/** What the tests share: answers that are due, calls that must throw, programs written as words, and looks at a house. */
+/** What the tests share: answers that are due, calls that must throw, programs as words, and looks at a house. */
 final class Due {
     private int wrong = 0;
     private int looked = 0;
@@ -46,6 +48,48 @@ final class Due {
         due(what + " changes nothing", look(house), before);
     }
 
+    /** The call throws just this exception, and the house goes on as one that was not called so. */
+    void dueRefused(String what, Supplier<Sendhouse> maker, Class<? extends Exception> kind,
+            ToLongFunction<Sendhouse> call) {
+        Sendhouse house = maker.get();
+        due(what, answerOf(house, call), kind.getSimpleName());
+        due(what + " changes nothing", goOn(house), goOn(maker.get()));
+    }
+
+    /** The call answers this, in a house of its own. */
+    void dueAnswer(String what, Supplier<Sendhouse> maker, long want, ToLongFunction<Sendhouse> call) {
+        due(what, answerOf(maker.get(), call), "" + want);
+    }
+
+    static String answerOf(Sendhouse house, ToLongFunction<Sendhouse> call) {
+        try {
+            return "" + call.applyAsLong(house);
+        } catch (RuntimeException e) {
+            return e.getClass().getSimpleName();
+        }
+    }
+
+    /** All that can be seen of a house, also what shows only as it goes on: typed rows, hot, places that are free. */
+    static String goOn(Sendhouse house) {
+        StringBuilder seen = new StringBuilder(look(house));
+        for (int cls = 0; cls < house.classes(); cls++) {
+            for (int selector = 0; selector < 16; selector++) {
+                int c = cls;
+                int s = selector;
+                seen.append(' ').append(answerOf(house, it -> it.find(c, s)));
+            }
+        }
+        seen.append(" hot ").append(house.hot(0)).append(" typed ").append(answerOf(house, it -> it.row('j', 0, 0)));
+        seen.append(" told ").append(answerOf(house, it -> it.method(0, 15, 0, 0)));
+        seen.append(" typed ").append(house.wipe());
+        seen.append(" gone on ").append(answerOf(house, it -> it.go(3))).append(look(house));
+        seen.append(" gone ").append(house.collect()).append(" made ").append(answerOf(house, it -> it.make(7, 0)));
+        seen.append(" added ").append(answerOf(house, it -> it.add(0, 1)));
+        seen.append(" ended ").append(answerOf(house, Sendhouse::end));
+        seen.append(" begun ").append(answerOf(house, it -> it.begin(7, 15, 0, 0, 0))).append(look(house));
+        return seen.toString();
+    }
+
     void finish(String name) {
         System.out.println(name + ": " + looked + " answers, " + wrong + " wrong");
         if (wrong != 0) {
@@ -66,6 +110,54 @@ final class Due {
     static int tell(Sendhouse house, int cls, int selector, int arguments, int temporaries, String rows) {
         type(house, rows);
         return house.method(cls, selector, arguments, temporaries);
+    }
+
+    /** A house whose global 0 is a number, with one method for numbers, selector 0. */
+    static Sendhouse numberHouse(int receiver, int arguments, int temporaries, String rows) {
+        Sendhouse house = new Sendhouse();
+        house.number(0, receiver);
+        tell(house, 1, 0, arguments, temporaries, rows);
+        return house;
+    }
+
+    /** The answer's kind and value, or 'x' and the fault, or the state. */
+    static String outcome(Sendhouse house) {
+        switch (house.state()) {
+            case 'r':
+                return "" + house.answerKind() + house.answer();
+            case 'x':
+                return "x" + house.reason();
+            default:
+                return "" + house.state();
+        }
+    }
+
+    /** The outcome of these rows, told for numbers, on the number 7 with the arguments x and y. */
+    static String outcome(String rows, int x, int y) {
+        Sendhouse house = numberHouse(7, 2, 4, rows);
+        house.begin(0, 0, 2, x, y);
+        house.go(500);
+        return outcome(house);
+    }
+
+    /** Begins a run with this receiver's global and this selector, and lets it go on by as many steps as it can. */
+    static String ran(Sendhouse house, int global, int selector) {
+        house.begin(global, selector, 0, 0, 0);
+        house.go(500);
+        return outcome(house);
+    }
+
+    /** Kind and value of a place of a frame. */
+    static String slot(Sendhouse house, int frame, char what, int index) {
+        return "" + house.slotKind(frame, what, index) + house.slot(frame, what, index);
+    }
+
+    static String global(Sendhouse house, int global) {
+        return "" + house.kind(global) + house.value(global);
+    }
+
+    static String field(Sendhouse house, int thing, int field) {
+        return "" + house.fieldKind(thing, field) + house.fieldValue(thing, field);
     }
 
     /** Whether these rows can be told; they are wiped if they cannot. */

@@ -93,33 +93,6 @@ public final class SendhouseTest {
         manyWrites();
     }
 
-    /** A house whose global 0 is a number, with one method for numbers, selector 0. */
-    private static Sendhouse numberHouse(int receiver, int arguments, int temporaries, String rows) {
-        Sendhouse house = new Sendhouse();
-        house.number(0, receiver);
-        Due.tell(house, 1, 0, arguments, temporaries, rows);
-        return house;
-    }
-
-    /** Runs the rows on the number 7 with the arguments x and y, and answers kind and value, or the fault. */
-    private static String outcome(String rows, int x, int y) {
-        Sendhouse house = numberHouse(7, 2, 4, rows);
-        house.begin(0, 0, 2, x, y);
-        house.go(500);
-        return outcome(house);
-    }
-
-    private static String outcome(Sendhouse house) {
-        switch (house.state()) {
-            case 'r':
-                return "" + house.answerKind() + house.answer();
-            case 'x':
-                return "x" + house.reason();
-            default:
-                return "" + house.state();
-        }
-    }
-
     private static void promise01NewObject() {
         Sendhouse house = new Sendhouse();
         CHECK.due("1 classes", house.classes(), 3);
@@ -360,7 +333,7 @@ public final class SendhouseTest {
     }
 
     private static void promise08Remove() {
-        Sendhouse house = numberHouse(7, 0, 0, "s r");
+        Sendhouse house = Due.numberHouse(7, 0, 0, "s r");
         CHECK.dueThrow("8 none there", house, NONE, () -> house.remove(1, 1));
         CHECK.dueThrow("8 not the one above", house, NONE, () -> house.remove(0, 0));
         CHECK.dueThrow("8 class", house, OUT, () -> house.remove(3, 0));
@@ -374,7 +347,7 @@ public final class SendhouseTest {
         CHECK.dueThrow("8 gone", house, NONE, () -> house.remove(1, 0));
         CHECK.dueThrow("8 not found", house, NONE, () -> house.find(1, 0));
         CHECK.due("8 goes on as it was", house.go(1), 0);
-        CHECK.due("8 answer", outcome(house), "n7");
+        CHECK.due("8 answer", Due.outcome(house), "n7");
         Due.tell(house, 1, 0, 0, 0, "s r");
         CHECK.due("8 never called", house.remove(1, 0), 0);
     }
@@ -400,7 +373,7 @@ public final class SendhouseTest {
     }
 
     private static void promise10Calls() {
-        Sendhouse house = numberHouse(7, 0, 0, "s m1,0 s m1,0 + r");
+        Sendhouse house = Due.numberHouse(7, 0, 0, "s m1,0 s m1,0 + r");
         Due.tell(house, 0, 1, 0, 0, "n1 r");
         house.begin(0, 0, 0, 0, 0);
         CHECK.due("10 as a run begins", house.calls(1, 0), 1);
@@ -418,14 +391,14 @@ public final class SendhouseTest {
         CHECK.dueThrow("10 class below", house, OUT, () -> house.calls(-1, 0));
         CHECK.dueThrow("10 selector", house, OUT, () -> house.calls(0, 16));
         CHECK.dueThrow("10 selector below", house, OUT, () -> house.calls(0, -1));
-        Sendhouse faulty = numberHouse(7, 0, 0, "s u m0,1 r");
+        Sendhouse faulty = Due.numberHouse(7, 0, 0, "s u m0,1 r");
         faulty.begin(0, 0, 0, 0, 0);
         faulty.go(9);
         CHECK.due("10 a send with a fault is no call", faulty.calls(1, 0), 1);
     }
 
     private static void promise11Compile() {
-        Sendhouse house = numberHouse(7, 0, 0, "s r");
+        Sendhouse house = Due.numberHouse(7, 0, 0, "s r");
         Due.tell(house, 0, 15, 0, 0, "s r");
         CHECK.due("11 one", house.compile(1, 0), 1);
         CHECK.due("11 once more", house.compile(1, 0), 1);
@@ -441,7 +414,7 @@ public final class SendhouseTest {
     }
 
     private static void promise12IsCompiled() {
-        Sendhouse house = numberHouse(7, 0, 0, "s r");
+        Sendhouse house = Due.numberHouse(7, 0, 0, "s r");
         CHECK.due("12 not at first", house.isCompiled(1, 0), false);
         house.compile(1, 0);
         CHECK.due("12 as told", house.isCompiled(1, 0), true);
@@ -459,7 +432,7 @@ public final class SendhouseTest {
     }
 
     private static void promise13Hot() {
-        Sendhouse house = numberHouse(7, 0, 0, "s m1,0 p s m1,0 p s m1,0 r");
+        Sendhouse house = Due.numberHouse(7, 0, 0, "s m1,0 p s m1,0 p s m1,0 r");
         Due.tell(house, 1, 1, 0, 0, "s r");
         CHECK.due("13 none at first", house.hot(99), 0);
         CHECK.due("13 the one ahead", house.hot(3), 99);
@@ -593,7 +566,7 @@ public final class SendhouseTest {
     }
 
     private static void promise22Things() {
-        Sendhouse house = numberHouse(7, 0, 0, "c0 p c0 r");
+        Sendhouse house = Due.numberHouse(7, 0, 0, "c0 p c0 r");
         house.make(1, 0);
         CHECK.due("22 made", house.things(), 1);
         house.begin(0, 0, 0, 0, 0);
@@ -657,7 +630,7 @@ public final class SendhouseTest {
         house.make(0, 0);
         house.begin(0, 0, 0, 0, 0);
         house.go(9);
-        CHECK.due("23 a fault", outcome(house), "xk");
+        CHECK.due("23 a fault", Due.outcome(house), "xk");
         house.nothing(0);
         CHECK.due("23 a fault's frames reach", house.collect(), 2);
         CHECK.due("23 a fault's frames", house.things(), 3);
@@ -665,7 +638,7 @@ public final class SendhouseTest {
     }
 
     private static void promise23CollectFromAnswer() {
-        Sendhouse house = numberHouse(7, 0, 0, "c0 w c0 d w r");
+        Sendhouse house = Due.numberHouse(7, 0, 0, "c0 w c0 d w r");
         Due.tell(house, 1, 1, 0, 0, "j0");
         house.begin(0, 0, 0, 0, 0);
         house.go(1);
@@ -697,11 +670,11 @@ public final class SendhouseTest {
         CHECK.due("24 temporary", "" + house.slotKind(0, 't', 2) + house.slot(0, 't', 2), "u0");
         CHECK.due("24 no step", house.steps(), 0);
         house.go(1);
-        CHECK.due("24 outcome", outcome(house), "n14");
+        CHECK.due("24 outcome", Due.outcome(house), "n14");
         Due.tell(house, 3, 5, 1, 0, "a0 r");
         CHECK.due("24 found", house.begin(3, 5, 1, 8, 9), 3);
         house.go(1);
-        CHECK.due("24 one argument", outcome(house), "n8");
+        CHECK.due("24 one argument", Due.outcome(house), "n8");
         Due.tell(house, 1, 5, 0, 0, "s r");
         Due.tell(house, 2, 5, 0, 0, "n2 r");
         house.number(0, 4);
@@ -711,7 +684,7 @@ public final class SendhouseTest {
     }
 
     private static void promise24BeginThrows() {
-        Sendhouse house = numberHouse(7, 1, 0, "j0");
+        Sendhouse house = Due.numberHouse(7, 1, 0, "j0");
         CHECK.dueThrow("24 global", house, OUT, () -> house.begin(8, 0, 1, 0, 0));
         CHECK.dueThrow("24 global below", house, OUT, () -> house.begin(-1, 0, 1, 0, 0));
         CHECK.dueThrow("24 selector", house, OUT, () -> house.begin(0, 16, 3, 0, 0));
@@ -731,15 +704,15 @@ public final class SendhouseTest {
     }
 
     private static void promise25Go() {
-        Sendhouse house = numberHouse(3, 0, 1, "s T0 t0 n1 - T0 t0 y2 t0 r");
+        Sendhouse house = Due.numberHouse(3, 0, 1, "s T0 t0 n1 - T0 t0 y2 t0 r");
         house.begin(0, 0, 0, 0, 0);
         CHECK.due("25 one", house.go(1), 1);
         CHECK.due("25 stands ahead of a step", house.frame(0, 'r'), 7);
         CHECK.due("25 the rest", house.go(500), 1);
-        CHECK.due("25 answer", outcome(house), "n0");
+        CHECK.due("25 answer", Due.outcome(house), "n0");
         house.begin(0, 0, 0, 0, 0);
         CHECK.due("25 just enough", house.go(2), 2);
-        CHECK.due("25 goes on to its answer", outcome(house), "n0");
+        CHECK.due("25 goes on to its answer", Due.outcome(house), "n0");
         Due.tell(house, 1, 0, 0, 0, "j0");
         house.begin(0, 0, 0, 0, 0);
         CHECK.due("25 at most", house.go(500), 500);
@@ -748,7 +721,7 @@ public final class SendhouseTest {
     }
 
     private static void promise25GoThrows() {
-        Sendhouse house = numberHouse(7, 0, 0, "s r");
+        Sendhouse house = Due.numberHouse(7, 0, 0, "s r");
         CHECK.dueThrow("25 none begun", house, STATE, () -> house.go(1));
         CHECK.dueThrow("25 none begun, range first", house, ARGUMENT, () -> house.go(0));
         house.begin(0, 0, 0, 0, 0);
@@ -760,14 +733,14 @@ public final class SendhouseTest {
         Due.tell(house, 1, 0, 0, 0, "u u + r");
         house.begin(0, 0, 0, 0, 0);
         house.go(1);
-        CHECK.due("25 a fault", outcome(house), "xk");
+        CHECK.due("25 a fault", Due.outcome(house), "xk");
         CHECK.dueThrow("25 after a fault", house, STATE, () -> house.go(1));
         house.end();
         CHECK.dueThrow("25 ended", house, STATE, () -> house.go(1));
     }
 
     private static void promise26End() {
-        Sendhouse house = numberHouse(7, 0, 0, "s m0,0 r");
+        Sendhouse house = Due.numberHouse(7, 0, 0, "s m0,0 r");
         CHECK.dueThrow("26 none", house, STATE, house::end);
         house.begin(0, 0, 0, 0, 0);
         house.go(3);
@@ -785,11 +758,11 @@ public final class SendhouseTest {
         house.begin(0, 0, 0, 0, 0);
         house.go(1);
         CHECK.dueThrow("26 answered", house, STATE, house::end);
-        CHECK.due("26 the answer stays", outcome(house), "n7");
+        CHECK.due("26 the answer stays", Due.outcome(house), "n7");
     }
 
     private static void promise27State() {
-        Sendhouse house = numberHouse(7, 1, 0, "n6 a0 / n0 y6 r j6");
+        Sendhouse house = Due.numberHouse(7, 1, 0, "n6 a0 / n0 y6 r j6");
         CHECK.due("27 none begun", house.state(), '-');
         house.begin(0, 0, 1, 2, 0);
         CHECK.due("27 begun", house.state(), 's');
@@ -806,7 +779,7 @@ public final class SendhouseTest {
     }
 
     private static void promise28Reason() {
-        Sendhouse house = numberHouse(7, 1, 0, "n6 a0 / r");
+        Sendhouse house = Due.numberHouse(7, 1, 0, "n6 a0 / r");
         CHECK.dueThrow("28 none begun", house, NONE, house::reason);
         house.begin(0, 0, 1, 0, 0);
         CHECK.dueThrow("28 stands", house, NONE, house::reason);
@@ -819,7 +792,7 @@ public final class SendhouseTest {
     }
 
     private static void promise29And30Answer() {
-        Sendhouse house = numberHouse(7, 0, 0, "n-3 r");
+        Sendhouse house = Due.numberHouse(7, 0, 0, "n-3 r");
         CHECK.dueThrow("29 none begun", house, NONE, house::answerKind);
         CHECK.dueThrow("30 none begun", house, NONE, house::answer);
         house.begin(0, 0, 0, 0, 0);
@@ -848,7 +821,7 @@ public final class SendhouseTest {
     }
 
     private static void promise31Steps() {
-        Sendhouse house = numberHouse(7, 0, 0, "s m1,0 r");
+        Sendhouse house = Due.numberHouse(7, 0, 0, "s m1,0 r");
         CHECK.due("31 none", house.steps(), 0);
         house.begin(0, 0, 0, 0, 0);
         house.go(9);
@@ -928,7 +901,7 @@ public final class SendhouseTest {
     }
 
     private static void promise36To38Written() {
-        Sendhouse house = numberHouse(7, 0, 0, "n-2 w u w c0 p c0 w s r");
+        Sendhouse house = Due.numberHouse(7, 0, 0, "n-2 w u w c0 p c0 w s r");
         CHECK.due("36 none", house.written(), 0);
         CHECK.dueThrow("37 none", house, NONE, () -> house.writtenKind(0));
         CHECK.dueThrow("38 none", house, NONE, () -> house.writtenValue(0));
@@ -1051,59 +1024,59 @@ public final class SendhouseTest {
     }
 
     private static void part3Putting() {
-        CHECK.due("n", outcome("n-12 r", 0, 0), "n-12");
-        CHECK.due("n keeps all bits", outcome("n-2147483648 r", 0, 0), "n-2147483648");
-        CHECK.due("u", outcome("u r", 0, 0), "u0");
-        CHECK.due("s", outcome("s r", 0, 0), "n7");
-        CHECK.due("a", outcome("a0 r", 3, 4), "n3");
-        CHECK.due("a1", outcome("a1 r", 3, 4), "n4");
-        CHECK.due("t", outcome("t3 r", 3, 4), "u0");
-        CHECK.due("T", outcome("n5 T3 n6 T2 t3 t2 - r", 3, 4), "n-1");
-        CHECK.due("g", outcome("g0 r", 3, 4), "n7");
-        CHECK.due("G", outcome("n8 G0 g0 s + r", 3, 4), "n15");
-        CHECK.due("d", outcome("n8 d * r", 3, 4), "n64");
-        CHECK.due("p", outcome("n8 n9 p r", 3, 4), "n8");
-        CHECK.due("r leaves what is below", outcome("n8 n9 r", 3, 4), "n9");
-        CHECK.due("j ahead", outcome("j3 u r n1 r", 3, 4), "n1");
+        CHECK.due("n", Due.outcome("n-12 r", 0, 0), "n-12");
+        CHECK.due("n keeps all bits", Due.outcome("n-2147483648 r", 0, 0), "n-2147483648");
+        CHECK.due("u", Due.outcome("u r", 0, 0), "u0");
+        CHECK.due("s", Due.outcome("s r", 0, 0), "n7");
+        CHECK.due("a", Due.outcome("a0 r", 3, 4), "n3");
+        CHECK.due("a1", Due.outcome("a1 r", 3, 4), "n4");
+        CHECK.due("t", Due.outcome("t3 r", 3, 4), "u0");
+        CHECK.due("T", Due.outcome("n5 T3 n6 T2 t3 t2 - r", 3, 4), "n-1");
+        CHECK.due("g", Due.outcome("g0 r", 3, 4), "n7");
+        CHECK.due("G", Due.outcome("n8 G0 g0 s + r", 3, 4), "n15");
+        CHECK.due("d", Due.outcome("n8 d * r", 3, 4), "n64");
+        CHECK.due("p", Due.outcome("n8 n9 p r", 3, 4), "n8");
+        CHECK.due("r leaves what is below", Due.outcome("n8 n9 r", 3, 4), "n9");
+        CHECK.due("j ahead", Due.outcome("j3 u r n1 r", 3, 4), "n1");
     }
 
     private static void part3Reckoning() {
         int[] some = {0, 1, -1, 2, -7, 7, 100, Integer.MAX_VALUE, Integer.MIN_VALUE};
         for (int x : some) {
             for (int y : some) {
-                CHECK.due("+", outcome("a0 a1 + r", x, y), "n" + (x + y));
-                CHECK.due("-", outcome("a0 a1 - r", x, y), "n" + (x - y));
-                CHECK.due("*", outcome("a0 a1 * r", x, y), "n" + x * y);
-                CHECK.due("/", outcome("a0 a1 / r", x, y), y == 0 ? "xz" : "n" + x / y);
-                CHECK.due("<", outcome("a0 a1 < r", x, y), "n" + (x < y ? 1 : 0));
-                CHECK.due("=", outcome("a0 a1 = r", x, y), "n" + (x == y ? 1 : 0));
+                CHECK.due("+", Due.outcome("a0 a1 + r", x, y), "n" + (x + y));
+                CHECK.due("-", Due.outcome("a0 a1 - r", x, y), "n" + (x - y));
+                CHECK.due("*", Due.outcome("a0 a1 * r", x, y), "n" + x * y);
+                CHECK.due("/", Due.outcome("a0 a1 / r", x, y), y == 0 ? "xz" : "n" + x / y);
+                CHECK.due("<", Due.outcome("a0 a1 < r", x, y), "n" + (x < y ? 1 : 0));
+                CHECK.due("=", Due.outcome("a0 a1 = r", x, y), "n" + (x == y ? 1 : 0));
             }
         }
         for (String letter : new String[] {"+", "-", "*", "/", "<"}) {
-            CHECK.due("first is no number", outcome("u a0 " + letter + " r", 0, 0), "xk");
-            CHECK.due("second is no number", outcome("a0 c0 " + letter + " r", 0, 0), "xk");
+            CHECK.due("first is no number", Due.outcome("u a0 " + letter + " r", 0, 0), "xk");
+            CHECK.due("second is no number", Due.outcome("a0 c0 " + letter + " r", 0, 0), "xk");
         }
     }
 
     private static void part3SameAndClass() {
-        CHECK.due("nothing is nothing", outcome("u u = r", 0, 0), "n1");
-        CHECK.due("nothing is not 0", outcome("u n0 = r", 0, 0), "n0");
-        CHECK.due("a thing is not its number", outcome("c0 n0 = r", 0, 0), "n0");
-        CHECK.due("a thing is itself", outcome("c0 d = r", 0, 0), "n1");
-        CHECK.due("a thing is not another", outcome("c0 c0 = r", 0, 0), "n0");
-        CHECK.due("class of a number", outcome("n9 k r", 0, 0), "n1");
-        CHECK.due("class of nothing", outcome("u k r", 0, 0), "n2");
-        CHECK.due("class of a thing", outcome("c0 k r", 0, 0), "n0");
-        CHECK.due("a new thing", outcome("c0 p c0 r", 0, 0), "o1");
+        CHECK.due("nothing is nothing", Due.outcome("u u = r", 0, 0), "n1");
+        CHECK.due("nothing is not 0", Due.outcome("u n0 = r", 0, 0), "n0");
+        CHECK.due("a thing is not its number", Due.outcome("c0 n0 = r", 0, 0), "n0");
+        CHECK.due("a thing is itself", Due.outcome("c0 d = r", 0, 0), "n1");
+        CHECK.due("a thing is not another", Due.outcome("c0 c0 = r", 0, 0), "n0");
+        CHECK.due("class of a number", Due.outcome("n9 k r", 0, 0), "n1");
+        CHECK.due("class of nothing", Due.outcome("u k r", 0, 0), "n2");
+        CHECK.due("class of a thing", Due.outcome("c0 k r", 0, 0), "n0");
+        CHECK.due("a new thing", Due.outcome("c0 p c0 r", 0, 0), "o1");
     }
 
     private static void part3Jumps() {
-        CHECK.due("y goes there", outcome("a0 y4 n1 r n2 r", 5, 0), "n2");
-        CHECK.due("y below 0 too", outcome("a0 y4 n1 r n2 r", -5, 0), "n2");
-        CHECK.due("y does not", outcome("a0 y4 n1 r n2 r", 0, 0), "n1");
-        CHECK.due("y without a number", outcome("u y4 n1 r n2 r", 0, 0), "xk");
-        CHECK.due("y with a thing", outcome("c0 y4 n1 r n2 r", 0, 0), "xk");
-        CHECK.due("y to the next row", outcome("a0 y2 n1 r", 0, 0), "n1");
+        CHECK.due("y goes there", Due.outcome("a0 y4 n1 r n2 r", 5, 0), "n2");
+        CHECK.due("y below 0 too", Due.outcome("a0 y4 n1 r n2 r", -5, 0), "n2");
+        CHECK.due("y does not", Due.outcome("a0 y4 n1 r n2 r", 0, 0), "n1");
+        CHECK.due("y without a number", Due.outcome("u y4 n1 r n2 r", 0, 0), "xk");
+        CHECK.due("y with a thing", Due.outcome("c0 y4 n1 r n2 r", 0, 0), "xk");
+        CHECK.due("y to the next row", Due.outcome("a0 y2 n1 r", 0, 0), "n1");
     }
 
     /** Classes 3 below 0, 4 below 3, 5 below 4, and a thing of 5 in the global 0. */
@@ -1123,28 +1096,28 @@ public final class SendhouseTest {
         Due.tell(house, 5, 1, 0, 0, "n5 s M1,0 + r");
         house.begin(0, 1, 0, 0, 0);
         house.go(9);
-        CHECK.due("above the class it was told for", outcome(house), "n18");
+        CHECK.due("above the class it was told for", Due.outcome(house), "n18");
         CHECK.due("steps", house.steps(), 2);
         Due.tell(house, 5, 2, 1, 0, "a0 M1,0 r");
         Due.tell(house, 4, 1, 0, 0, "s r");
         house.begin(0, 2, 1, 77, 0);
         house.go(9);
-        CHECK.due("above, with another receiver", outcome(house), "n77");
+        CHECK.due("above, with another receiver", Due.outcome(house), "n77");
         Due.tell(house, 0, 3, 0, 0, "s M3,0 r");
         house.begin(0, 3, 0, 0, 0);
         house.go(9);
-        CHECK.due("nothing is above 0", outcome(house), "xu");
+        CHECK.due("nothing is above 0", Due.outcome(house), "xu");
         Due.tell(house, 1, 3, 0, 0, "n4 s M3,0 r");
         Due.tell(house, 0, 3, 0, 0, "s n1 + r");
         house.number(1, 20);
         house.begin(1, 3, 0, 0, 0);
         house.go(9);
-        CHECK.due("above numbers", outcome(house), "n21");
+        CHECK.due("above numbers", Due.outcome(house), "n21");
         Due.tell(house, 0, 4, 2, 0, "a0 a1 - r");
         Due.tell(house, 5, 5, 0, 0, "s n9 n2 m4,2 r");
         house.begin(0, 5, 0, 0, 0);
         house.go(9);
-        CHECK.due("the last argument was the top", outcome(house), "n7");
+        CHECK.due("the last argument was the top", Due.outcome(house), "n7");
     }
 
     private static void dueFault(String rows, String fault, int row, int depth) {
@@ -1153,7 +1126,7 @@ public final class SendhouseTest {
         Due.tell(house, 5, 0, 0, 0, rows);
         house.begin(0, 0, 0, 0, 0);
         house.go(99);
-        CHECK.due("fault of " + rows, outcome(house), fault);
+        CHECK.due("fault of " + rows, Due.outcome(house), fault);
         CHECK.due("row of " + rows, house.frame(house.frames() - 1, 'r'), row);
         CHECK.due("pile of " + rows, house.frame(house.frames() - 1, 'd'), depth);
         CHECK.due("sound at " + rows, house.isSound(), true);
@@ -1181,57 +1154,57 @@ public final class SendhouseTest {
         house.make(1, 0);
         house.begin(0, 3, 0, 0, 0);
         house.go(9);
-        CHECK.due("a thing without the field", outcome(house), "xk");
+        CHECK.due("a thing without the field", Due.outcome(house), "xk");
         CHECK.due("its frame", house.frame(1, 'r'), 0);
         house.begin(0, 4, 0, 0, 0);
         house.go(9);
-        CHECK.due("no field to take into", outcome(house), "xk");
+        CHECK.due("no field to take into", Due.outcome(house), "xk");
         CHECK.due("the pile is as it was", house.frame(1, 'd'), 1);
         house.number(1, 3);
         house.begin(0, 3, 0, 0, 0);
         house.go(9);
-        CHECK.due("a number has no field", outcome(house), "xk");
+        CHECK.due("a number has no field", Due.outcome(house), "xk");
         house.nothing(1);
         house.begin(0, 4, 0, 0, 0);
         house.go(9);
-        CHECK.due("nothing has no field", outcome(house), "xk");
+        CHECK.due("nothing has no field", Due.outcome(house), "xk");
         int other = house.add(0, 2);
         int thing = house.make(1, other);
         house.begin(0, 4, 0, 0, 0);
         house.go(9);
-        CHECK.due("a field of that number", outcome(house), "u0");
+        CHECK.due("a field of that number", Due.outcome(house), "u0");
         CHECK.due("taken into it", house.fieldValue(thing, 0), 6);
         house.begin(0, 3, 0, 0, 0);
         house.go(9);
-        CHECK.due("and put from it", outcome(house), "n6");
+        CHECK.due("and put from it", Due.outcome(house), "n6");
     }
 
     private static void part4TwelveFrames() {
-        Sendhouse house = numberHouse(7, 0, 0, "n1 s m0,0 + r");
+        Sendhouse house = Due.numberHouse(7, 0, 0, "n1 s m0,0 + r");
         house.begin(0, 0, 0, 0, 0);
         CHECK.due("eleven sends", house.go(11), 11);
         CHECK.due("twelve frames", house.frames(), 12);
         CHECK.due("still stands", house.state(), 's');
         CHECK.due("the twelfth send is a step", house.go(5), 1);
-        CHECK.due("a fault", outcome(house), "xd");
+        CHECK.due("a fault", Due.outcome(house), "xd");
         CHECK.due("frames stay", house.frames(), 12);
         CHECK.due("calls", house.calls(1, 0), 12);
         CHECK.due("pile stays", house.frame(11, 'd'), 2);
         Due.tell(house, 1, 0, 1, 0, "a0 y4 s r s a0 n1 - m0,1 r");
         house.begin(0, 0, 1, 11, 0);
         house.go(99);
-        CHECK.due("twelve frames are no fault", outcome(house), "n7");
+        CHECK.due("twelve frames are no fault", Due.outcome(house), "n7");
         Due.tell(house, 1, 0, 1, 0, "a0 y5 s m0,0 r s a0 n1 - m0,1 r");
         house.begin(0, 0, 1, 11, 0);
         house.go(99);
-        CHECK.due("u is looked at ahead of d", outcome(house), "xu");
+        CHECK.due("u is looked at ahead of d", Due.outcome(house), "xu");
     }
 
     private static void part4SixtyThings() {
-        Sendhouse house = numberHouse(7, 0, 0, "u c0 p p j0");
+        Sendhouse house = Due.numberHouse(7, 0, 0, "u c0 p p j0");
         house.begin(0, 0, 0, 0, 0);
         CHECK.due("60 rounds", house.go(500), 60);
-        CHECK.due("no room", outcome(house), "xm");
+        CHECK.due("no room", Due.outcome(house), "xm");
         CHECK.due("60 are there", house.things(), 60);
         CHECK.due("row", house.frame(0, 'r'), 1);
         CHECK.due("pile", house.frame(0, 'd'), 1);
@@ -1242,20 +1215,20 @@ public final class SendhouseTest {
     }
 
     private static void part5StepsOfY() {
-        Sendhouse house = numberHouse(7, 1, 0, "n1 p a0 y0 n5 r");
+        Sendhouse house = Due.numberHouse(7, 1, 0, "n1 p a0 y0 n5 r");
         house.begin(0, 0, 1, 0, 0);
         CHECK.due("y that does not go there is no step", house.go(9), 0);
         Due.tell(house, 1, 0, 1, 0, "a0 y3 j3 n5 r");
         house.begin(0, 0, 1, 1, 0);
         CHECK.due("jumps further down are no steps", house.go(9), 0);
-        CHECK.due("answer", outcome(house), "n5");
+        CHECK.due("answer", Due.outcome(house), "n5");
         Due.tell(house, 1, 0, 1, 0, "a0 y0 u r");
         house.begin(0, 0, 1, 1, 0);
         CHECK.due("y up is one", house.go(9), 9);
     }
 
     private static void part5StandsAheadOfSteps() {
-        Sendhouse house = numberHouse(7, 0, 0, "n1 w s m1,0 w n2 w s m1,0 r");
+        Sendhouse house = Due.numberHouse(7, 0, 0, "n1 w s m1,0 w n2 w s m1,0 r");
         Due.tell(house, 1, 1, 0, 0, "n4 w s r");
         house.begin(0, 0, 0, 0, 0);
         CHECK.due("one", house.go(1), 1);
@@ -1264,31 +1237,31 @@ public final class SendhouseTest {
         CHECK.due("row", house.frame(0, 'r'), 8);
         CHECK.due("pile", house.frame(0, 'd'), 1);
         CHECK.due("the last", house.go(1), 1);
-        CHECK.due("answer", outcome(house), "n7");
+        CHECK.due("answer", Due.outcome(house), "n7");
         Due.tell(house, 1, 0, 0, 0, "s m2,0 r");
         Due.tell(house, 1, 2, 0, 0, "s m3,0 r");
         house.begin(0, 0, 0, 0, 0);
         house.go(1);
         CHECK.due("ahead of a send that will be a fault", house.state(), 's');
         CHECK.due("that is a step", house.go(1), 1);
-        CHECK.due("its fault", outcome(house), "xu");
+        CHECK.due("its fault", Due.outcome(house), "xu");
     }
 
     private static void part5FaultAtOnce() {
-        Sendhouse house = numberHouse(7, 0, 0, "s m1,0 p u y0 j5");
+        Sendhouse house = Due.numberHouse(7, 0, 0, "s m1,0 p u y0 j5");
         Due.tell(house, 1, 1, 0, 0, "s r");
         house.begin(0, 0, 0, 0, 0);
         CHECK.due("one step", house.go(1), 1);
-        CHECK.due("y without a number is a fault at once", outcome(house), "xk");
+        CHECK.due("y without a number is a fault at once", Due.outcome(house), "xk");
         CHECK.due("its row", house.frame(0, 'r'), 4);
         Due.tell(house, 1, 0, 0, 0, "s m1,0 n0 / r");
         house.begin(0, 0, 0, 0, 0);
         house.go(1);
-        CHECK.due("others are too", outcome(house), "xz");
+        CHECK.due("others are too", Due.outcome(house), "xz");
     }
 
     private static void part5ToldWhileItStands() {
-        Sendhouse house = numberHouse(7, 0, 0, "s m1,0 s m1,0 + g1 + r");
+        Sendhouse house = Due.numberHouse(7, 0, 0, "s m1,0 s m1,0 + g1 + r");
         Due.tell(house, 1, 1, 0, 0, "j1 n1 r");
         Due.tell(house, 1, 1, 0, 0, "n0 y0 n1 r");
         house.begin(0, 0, 0, 0, 0);
@@ -1297,7 +1270,7 @@ public final class SendhouseTest {
         Due.tell(house, 1, 0, 0, 0, "u r");
         house.number(1, 600);
         CHECK.due("the second send", house.go(1), 1);
-        CHECK.due("by what is there then", outcome(house), "n651");
+        CHECK.due("by what is there then", Due.outcome(house), "n651");
         CHECK.due("called since it was told anew", house.calls(1, 1), 1);
         Due.tell(house, 1, 0, 0, 0, "s m2,0 r");
         Due.tell(house, 1, 2, 0, 0, "j0");
@@ -1310,7 +1283,7 @@ public final class SendhouseTest {
     }
 
     private static void manyWrites() {
-        Sendhouse house = numberHouse(7, 0, 0, "s w u w s w u w s w u w s w u w s w u w s w j0");
+        Sendhouse house = Due.numberHouse(7, 0, 0, "s w u w s w u w s w u w s w u w s w u w s w j0");
         house.begin(0, 0, 0, 0, 0);
         for (int i = 0; i < 20; i++) {
             CHECK.due("writes on", house.go(500), 500);
