@@ -185,6 +185,7 @@ public final class Sendhouse {
 
     // ---- compiling
 
+    // A mark alone, which a run does not ask for: what is compiled leads to the same, and the speed is free.
     public int compile(int cls, int selector) throws IndexOutOfBoundsException, NoSuchElementException {
         checkedMethod(cls, selector).compiled = true;
         return compiledMethods();
@@ -1198,7 +1199,7 @@ public final class Sendhouse {
 
         /** Each thing stands among the reached ones once, so this ends with a ring of things too. */
         void reachFields() {
-            for (int i = 0; i < MOST_THINGS && i < reachedCount; i++) {
+            for (int i = 0; i < reached.length && i < reachedCount; i++) {
                 Thing thing = reached[i];
                 for (int j = 0; thing != null && j < thing.size; j++) {
                     reach(placeAt(thing.places, j));
@@ -1211,7 +1212,7 @@ public final class Sendhouse {
             int kept = 0;
             for (int i = 0; i < before && i < all.length; i++) {
                 Thing thing = all[i];
-                if (thing != null && thing.reached) {
+                if (thing != null && thing.reached && kept <= i) {
                     thing.reached = false;
                     all[i] = all[kept];
                     all[kept] = thing;

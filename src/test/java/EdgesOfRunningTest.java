@@ -66,6 +66,7 @@ public final class EdgesOfRunningTest {
         countsSinceItWasTold();
         countsNoFaultySend();
         countsAsARunBegins();
+        countsAlsoIfBuiltIn();
     }
 
     private static void compiling() {
@@ -75,6 +76,8 @@ public final class EdgesOfRunningTest {
         compiledAtNoneWith0();
         compiledTillToldAnewOrTakenAway();
         leadsToTheSame();
+        comesBackToRowsAtAnyStep();
+        faultsInWhatIsCompiled();
     }
 
     private static void collecting() {
@@ -751,6 +754,31 @@ public final class EdgesOfRunningTest {
         }
     }
 
+    /** "also if it is built in" */
+    private static void countsAlsoIfBuiltIn() {
+        Sendhouse house = Due.numberHouse(7, 0, 0, "s m1,0 p j0");
+        Due.tell(house, 1, 1, 0, 0, "s M2,0 r");
+        Due.tell(house, 0, 2, 0, 0, "s r");
+        house.compile(1, 0);
+        house.compile(1, 1);
+        CHECK.due("all are compiled", house.compile(0, 2), 3);
+        house.begin(0, 0, 0, 0, 0);
+        for (int round = 1; round <= 40; round++) {
+            CHECK.due("m", house.go(1), 1);
+            CHECK.due("what m sends to", house.calls(1, 1), round);
+            CHECK.due("not yet by M", house.calls(0, 2), round - 1);
+            CHECK.due("two frames", house.frames(), 2);
+            CHECK.due("M", house.go(1), 1);
+            CHECK.due("what M sends to", house.calls(0, 2), round);
+            CHECK.due("one frame", house.frames(), 1);
+            CHECK.due("j", house.go(1), 1);
+        }
+        CHECK.due("as the run began", house.calls(1, 0), 1);
+        house.go(500);
+        CHECK.due("by many steps too", house.calls(1, 1), 40 + 167);
+        CHECK.due("and further in", house.calls(0, 2), 40 + 167);
+    }
+
     // ---- Part 6, compiling
 
     /** "A method is compiled when that is told" */
@@ -864,6 +892,72 @@ public final class EdgesOfRunningTest {
                 CHECK.due("ended", compiled.end(), plain.end());
             }
         }
+    }
+
+    /** "comes back to rows at any step": what is told while compiled methods stand is there as they go on. */
+    private static void comesBackToRowsAtAnyStep() {
+        for (int compiled = 0; compiled < 2; compiled++) {
+            Sendhouse house = Due.numberHouse(7, 0, 0, "s m1,0 w j0");
+            Due.tell(house, 0, 1, 0, 0, "s m2,0 r");
+            Due.tell(house, 0, 2, 0, 0, "n5 r");
+            house.hot(compiled);
+            house.begin(0, 0, 0, 0, 0);
+            house.go(4);
+            CHECK.due("it stands inside", house.frames(), 2);
+            CHECK.due("ahead of a send", house.frame(1, 'r'), 1);
+            Due.tell(house, 0, 1, 0, 0, "n6 r");
+            Due.tell(house, 0, 2, 0, 0, "n7 r");
+            dueWrites(house, "its rows as they were, what it sends to as it is", 1, 7);
+            dueWrites(house, "told anew", 2, 6);
+            Due.tell(house, 1, 1, 0, 0, "n8 r");
+            dueWrites(house, "a nearer one", 2, 8);
+            house.remove(1, 1);
+            dueWrites(house, "taken away", 2, 6);
+            Due.tell(house, 1, 0, 0, 0, "u r");
+            dueWrites(house, "the sending one told anew", 2, 6);
+            house.remove(1, 0);
+            dueWrites(house, "and taken away", 2, 6);
+            house.remove(0, 1);
+            house.go(500);
+            CHECK.due("none is there", Due.outcome(house), "xu");
+            CHECK.due("steps", house.steps(), 4 + 1 + 5 * 2 + 2);
+        }
+    }
+
+    private static void dueWrites(Sendhouse house, String what, int steps, int number) {
+        CHECK.due(what + ": steps", house.go(steps), steps);
+        CHECK.due(what + ": written", house.writtenValue(house.written() - 1), number);
+    }
+
+    /** "What is compiled leads to the same": so do its faults, with all frames as they were ahead of the row. */
+    private static void faultsInWhatIsCompiled() {
+        String[] inner = {"u n1 n0 / r", "u n1 + r", "u f0 r", "n3 F0 u r", "u y0 u r", "u u m9,1 r", "s m2,0 r", "u c0 r"};
+        for (String rows : inner) {
+            Sendhouse plain = faulty(rows);
+            Sendhouse compiled = faulty(rows);
+            compiled.hot(1);
+            CHECK.due(rows, Due.ran(compiled, 0, 0), Due.ran(plain, 0, 0));
+            CHECK.due("a fault of " + rows, plain.state(), 'x');
+            CHECK.due("all of " + rows, Due.look(compiled).replace("true", "false"), Due.look(plain));
+            CHECK.due("ended: " + rows, compiled.end(), plain.end());
+        }
+    }
+
+    /** 60 things; the class 3 has a field, and its method 2, to which one comes by 'M' with another receiver, has a fault. */
+    private static Sendhouse faulty(String rows) {
+        Sendhouse house = new Sendhouse();
+        house.add(0, 1);
+        house.add(3, 0);
+        house.make(0, 4);
+        for (int i = 1; i < 60; i++) {
+            house.make(1, 0);
+        }
+        house.nothing(2);
+        Due.tell(house, 4, 0, 0, 1, "n4 T0 n9 s m1,0 r");
+        Due.tell(house, 4, 1, 0, 0, "n8 g2 M2,0 r");
+        Due.tell(house, 3, 2, 0, 0, rows);
+        Due.tell(house, 2, 2, 0, 0, "s m2,0 r");
+        return house;
     }
 
     private static Sendhouse compilable() {

@@ -25,6 +25,7 @@ public final class LanguageTest {
         String source = Files.readString(Path.of("src/main/java/Sendhouse.java"));
         rule1TheFace();
         rule1PrivateNames();
+        headingsAheadOfTheCalls(source);
         rule4And5Statics(source);
         forbiddenWords(source);
         rule11Lengths(source);
@@ -100,6 +101,24 @@ public final class LanguageTest {
             CHECK.due("rule 1: another name than " + method.getName(), open.contains(method.getName()), false);
         }
         CHECK.due("rule 11: twelve classes", Sendhouse.class.getDeclaredClasses().length <= 11, true);
+    }
+
+    /** "Ahead of the calls .. the interface says: .." */
+    private static void headingsAheadOfTheCalls(String source) throws IOException {
+        String doc = Files.readString(Path.of("../shared/DOC.md"));
+        Matcher said = Pattern.compile("Ahead of the calls ([^.]*) the interface says: ([^.]*)\\.").matcher(doc);
+        int headings = 0;
+        while (said.find()) {
+            headings++;
+            int from = source.indexOf("    // ---- " + said.group(2) + "\n");
+            CHECK.due("a heading: " + said.group(2), from >= 0, true);
+            String below = from < 0 ? "" : source.substring(from, source.indexOf("    // ---- ", from + 1));
+            for (String call : said.group(1).split("[`, ]+")) {
+                boolean there = Pattern.compile("(?m)^    public \\w+ " + call + "\\(").matcher(below).find();
+                CHECK.due(call + " below " + said.group(2), there, !call.isEmpty());
+            }
+        }
+        CHECK.due("headings", headings, 5);
     }
 
     private static void rule4And5Statics(String source) {
